@@ -278,6 +278,21 @@ public final class PromisesTest {
         due("7: of two with 8 the first one, in z", h.breakRing(), 3);
         due("7: box 0 in z", h.end(0, 2, true), 2);
         due("7: box 2 is whole", h.ofBox(2, 0), 8);
+        breaksAt("1,2,2:3,3,1;3,4,1:4,1,1;4,2,1:1,2,2", 0, 2);
+        breaksAt("0,3,3:3,1,3;2,1,4:2,2,1;3,1,3:1,3,1", 0, 1);
+        breaksAt("0,1,2:1,3,3;0,3,1:2,2,1;1,2,0:1,1,3", 1, 2);
+        breaksAt("3,1,1:3,3,3;1,1,4:3,1,1;2,2,2:1,1,4", 0, 4);
+    }
+
+    /** A ring whose box 0 is the greatest, and has its greatest size in several directions. */
+    private static void breaksAt(String text, int direction, int at) {
+        HidingBoxes h = of(text);
+        due("7: a ring of all three", h.total(4), 3);
+        due("7: is broken", h.breakRing(), 3);
+        for (int d = 0; d < 3; d++) {
+            due("7: the low end " + d, h.end(3, d, false), d == direction ? at : h.end(0, d, false));
+            due("7: the high end " + d, h.end(0, d, true), d == direction ? at : h.end(3, d, true));
+        }
     }
 
     private static void promise8Turn() {
@@ -630,6 +645,9 @@ public final class PromisesTest {
         order(h, 1, 0, 2, 3);
         h.set(0, 2);
         order(h, 2, 3, 0, 1);
+        h = of("0,0,20:1,1,1;0,20,1:1,1,1;20,0,2:1,1,1;31,31,0:1,1,1;9,0,9:1,1,2;6,6,6:1,1,3");
+        due("20: the corner of box 4 is nearer than that of box 0", h.set(0, 1), 0);
+        order(h, 4, 5, 0, 1, 2, 3);
         due("20: negative", h.drawn(-1), OUT_OF_RANGE);
         due("20: least", h.drawn(MIN), OUT_OF_RANGE);
         due("20: greatest", h.drawn(MAX), NONE);
@@ -668,6 +686,8 @@ public final class PromisesTest {
         due("21: greatest", h.total(MAX), OUT_OF_RANGE);
         due("21: least", h.total(MIN), OUT_OF_RANGE);
         due("21: no layers where all are in rings", ring().total(6), NONE);
+        due("21: a ring of all boxes", ring().total(5), 3);
+        due("18: a ring of all boxes", ring().ofBox(2, 4), 3);
         h = ring();
         h.breakRing();
         due("21: breakRing counts as a split", h.total(7), 1);

@@ -7,6 +7,18 @@ public final class RandomRunsTest {
     private static final int CALLS = 512;
     private static final int[] ODD = {-1, 0, 3, 16, 31, 32, 33, Integer.MIN_VALUE, Integer.MAX_VALUE};
 
+    /** Rings of three boxes; in most of them the greatest one is as great in several directions. */
+    private static final int[][][] RINGS = {
+        {{1, 2, 2, 3, 3, 1}, {3, 4, 1, 4, 1, 1}, {4, 2, 1, 1, 2, 2}},
+        {{0, 3, 3, 3, 1, 3}, {2, 1, 4, 2, 2, 1}, {3, 1, 3, 1, 3, 1}},
+        {{0, 1, 2, 1, 3, 3}, {0, 3, 1, 2, 2, 1}, {1, 2, 0, 1, 1, 3}},
+        {{3, 1, 1, 3, 3, 3}, {1, 1, 4, 3, 1, 1}, {2, 2, 2, 1, 1, 4}},
+        {{2, 4, 0, 1, 1, 2}, {1, 2, 1, 4, 2, 3}, {3, 3, 0, 1, 4, 1}},
+        {{0, 0, 1, 2, 1, 1}, {1, 0, 0, 1, 2, 1}, {0, 1, 0, 1, 1, 2}},
+        {{0, 0, 1, 5, 1, 1}, {1, 0, 0, 1, 5, 1}, {0, 1, 0, 1, 1, 5}},
+        {{0, 1, 2, 3, 1, 1}, {2, 0, 1, 1, 3, 1}, {1, 2, 0, 1, 1, 3}},
+    };
+
     private final Random random;
     private final HidingBoxes program = new HidingBoxes();
     private final Model model = new Model();
@@ -144,15 +156,16 @@ public final class RandomRunsTest {
                 model.add(b[0], b[1], b[2], b[3], b[4], b[5]));
     }
 
-    /** Three bars of which each one hides the next one, unless something is in their way. */
+    /** Three boxes of which each one hides the next one, unless something is in their way. */
     private void addRing(String name) {
-        int length = 2 + random.nextInt(4);
-        int x = random.nextInt(Math.min(region, 26));
-        int y = random.nextInt(Math.min(region, 26));
-        int z = random.nextInt(Math.min(region, 26));
-        add(name, new int[] {x, y, z + 1, length, 1, 1});
-        add(name, new int[] {x + 1, y, z, 1, length, 1});
-        add(name, new int[] {x, y + 1, z, 1, 1, length});
+        int[][] ring = RINGS[random.nextInt(RINGS.length)];
+        int[] at = new int[3];
+        for (int d = 0; d < 3; d++) {
+            at[d] = random.nextInt(Math.min(region, 25));
+        }
+        for (int[] b : ring) {
+            add(name, new int[] {at[0] + b[0], at[1] + b[1], at[2] + b[2], b[3], b[4], b[5]});
+        }
     }
 
     private void enterText(String name) {
