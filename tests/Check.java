@@ -18,6 +18,10 @@ final class Check {
         due(what, holds ? 1 : 0, 1);
     }
 
+    static int calls() {
+        return calls;
+    }
+
     static boolean isWrong() {
         return wrong != 0;
     }
