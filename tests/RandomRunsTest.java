@@ -19,6 +19,17 @@ public final class RandomRunsTest {
         {{0, 1, 2, 3, 1, 1}, {2, 0, 1, 1, 3, 1}, {1, 2, 0, 1, 1, 3}},
     };
 
+    /** A ring of ten boxes and a ring of sixteen, in which there is no shorter ring. */
+    private static final int[][][] LONG_RINGS = {
+        {{6, 3, 21, 2, 6, 5}, {1, 14, 14, 3, 10, 5}, {16, 2, 21, 5, 4, 6}, {9, 7, 8, 11, 3, 12},
+            {18, 6, 13, 9, 1, 12}, {1, 21, 4, 12, 7, 8}, {6, 16, 4, 9, 4, 11}, {12, 4, 21, 3, 4, 8},
+            {4, 5, 19, 1, 12, 12}, {3, 13, 7, 10, 2, 5}},
+        {{18, 15, 8, 6, 2, 7}, {5, 2, 17, 2, 3, 7}, {19, 17, 3, 3, 1, 7}, {8, 0, 18, 1, 8, 4},
+            {1, 10, 16, 12, 10, 1}, {9, 13, 2, 2, 12, 1}, {19, 10, 9, 12, 5, 12}, {7, 17, 8, 9, 1, 1},
+            {2, 12, 12, 4, 11, 3}, {10, 21, 0, 7, 10, 2}, {12, 16, 7, 4, 2, 1}, {0, 3, 19, 4, 12, 12},
+            {13, 6, 23, 7, 1, 1}, {1, 16, 9, 9, 3, 2}, {15, 19, 1, 9, 2, 4}, {19, 7, 14, 5, 1, 11}},
+    };
+
     private final Random random;
     private final HidingBoxes program = new HidingBoxes();
     private final Model model = new Model();
@@ -33,22 +44,26 @@ public final class RandomRunsTest {
     }
 
     public static void main(String[] args) {
-        int[] seen = new int[3];
+        int[] seen = new int[4];
         for (int seed = 0; seed < RUNS && !Check.isWrong(); seed++) {
             new RandomRunsTest(seed).run(seed, seen);
         }
         Check.that("there were runs with rings", seen[0] > 100);
         Check.that("there were rings that could not be broken for want of room", seen[1] > 10);
         Check.that("there were full spaces", seen[2] > 100);
+        Check.that("there were long rings", seen[3] > 100);
         Check.end("RandomRunsTest");
     }
 
     private void run(int seed, int[] seen) {
+        if (seed % 3 == 0) {
+            addAll("run " + seed + ", ring: ", LONG_RINGS[seed / 3 % 2], new int[3]);
+        }
         // A round takes up to 82 calls, and an object is promised for 512 calls alone.
         for (int round = 0; calls < CALLS - 82 && !Check.isWrong(); round++) {
             String name = "run " + seed + ", round " + round + ": ";
-            if (round < 20 || random.nextInt(10) < changesOfTen) {
-                change(name, round < 20 ? random.nextInt(2) : random.nextInt(21));
+            if (seed % 3 != 0 && round < 20 || random.nextInt(10) < changesOfTen) {
+                change(name, seed % 3 != 0 && round < 20 ? random.nextInt(2) : random.nextInt(21));
             } else {
                 ask(name, random.nextInt(9));
             }
@@ -64,6 +79,7 @@ public final class RandomRunsTest {
         seen[0] += hasRing ? 1 : 0;
         seen[1] += hasRing && model.breaks() == HidingBoxes.FULL ? 1 : 0;
         seen[2] += model.total(0) == 16 ? 1 : 0;
+        seen[3] += model.total(5) > 5 ? 1 : 0;
     }
 
     private int odd() {
@@ -163,7 +179,11 @@ public final class RandomRunsTest {
         for (int d = 0; d < 3; d++) {
             at[d] = random.nextInt(Math.min(region, 25));
         }
-        for (int[] b : ring) {
+        addAll(name, ring, at);
+    }
+
+    private void addAll(String name, int[][] boxes, int[] at) {
+        for (int[] b : boxes) {
             add(name, new int[] {at[0] + b[0], at[1] + b[1], at[2] + b[2], b[3], b[4], b[5]});
         }
     }

@@ -26,6 +26,9 @@ abstract class Sentences {
     /** Three bars: 0 hides 1 by z, 1 hides 2 by x, 2 hides 0 by y. */
     static final String[] RING = {"0,0,1:2,1,1", "1,0,0:1,2,1", "0,1,0:1,1,2"};
 
+    /** What it says is said again, word by word, in the terms and the promises, but for one sentence. */
+    static final String INTRODUCTION = "What it is";
+
     private static final Map<String, List<String>> TRIED = new LinkedHashMap<>();
     private static String label = "";
 
@@ -223,6 +226,7 @@ abstract class Sentences {
                 Check.that(tried.getKey() + " says: " + sentence, text.contains(sentence));
             }
         }
+        sections.remove(INTRODUCTION);
         for (Map.Entry<String, String> section : sections.entrySet()) {
             String rest = withoutTried(section.getValue(), TRIED.getOrDefault(section.getKey(), List.of()));
             Check.that("a test names this of " + section.getKey() + ": " + rest, rest.isEmpty());
@@ -253,7 +257,7 @@ abstract class Sentences {
         for (String line : lines) {
             if (line.startsWith("## ")) {
                 section = line.startsWith("## Promise ") ? line.substring(3, line.indexOf(':')) : "";
-                section = line.equals("## Terms") ? "Terms" : section;
+                section = line.equals("## Terms") || line.equals("## " + INTRODUCTION) ? line.substring(3) : section;
             } else if (!section.isEmpty() && line.matches("[A-Z]+(, [A-Z]+)*")) {
                 section = line;
             } else if (!section.isEmpty() && !line.isBlank() && !line.startsWith("Ahead of the calls")) {

@@ -36,6 +36,7 @@ final class TracesBoundaries extends Sentences {
         }
         test("ERRORS", CHANGES_NOTHING, TracesBoundaries::whenFull);
         test("BOXES", "There are at most 16 boxes", TracesBoundaries::roomAgain);
+        test(INTRODUCTION, "An object is used for at most 512 calls after it has been made", TracesBoundaries::toTheLastCall);
     }
 
     /** A question that tries something on its way changes nothing either. */
@@ -248,5 +249,30 @@ final class TracesBoundaries extends Sentences {
         due(FULL, text.addAll());
         due(15, text.add(30, 30, 31, 1, 1, 1));
         due(FULL, text.add(20, 20, 20, 1, 1, 1));
+    }
+
+    /** Each kind of change as often as an object's calls allow, and what is there at the last one. */
+    private static void toTheLastCall() {
+        Calls typed = new Calls();
+        each(1, Calls.MOST, i -> i <= 80 ? i : FULL, i -> typed.type('1'));
+        Calls turned = boxes("1,2,3:4,5,6");
+        each(2, Calls.MOST - 6, i -> 0, i -> turned.turn());
+        ends(turned, 0, "25,1,3:5,4,6");
+        Calls moved = boxes("0,0,0:1,1,1");
+        each(2, Calls.MOST, i -> i % 2 == 0 ? 31 : 0, i -> moved.move(0, 2, i % 2 == 0 ? 31 : -31));
+        Calls fallen = boxes("0,0,0:1,1,1");
+        each(2, Calls.MOST, i -> 31, i -> i % 2 == 0 ? fallen.move(0, 2, 31) : fallen.fall(0));
+        Calls set = new Calls();
+        each(1, Calls.MOST, i -> (i + 1) % 2, i -> set.set(0, i % 2));
+        Calls undone = boxes("0,0,0:2,1,1");
+        each(2, Calls.MOST, i -> 1, i -> i % 2 == 0 ? undone.split(0, 0, 1) : undone.undo());
+        Calls kept = boxes("0,0,0:2,1,1");
+        due(1, kept.keep());
+        each(3, Calls.MOST, i -> i % 2, i -> i % 2 == 0 ? kept.remove(0) - 2 : kept.restore());
+        Calls text = typed("0,0,0:1,1,1");
+        each(12, Calls.MOST, i -> 1, i -> i % 2 == 0 ? text.addAll() : text.remove(i / 2 - 6));
+        for (Calls h : new Calls[] {typed, turned, moved, fallen, set, undone, kept, text}) {
+            that("all calls that are promised are made", h.made() == Calls.MOST);
+        }
     }
 }
